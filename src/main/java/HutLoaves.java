@@ -258,20 +258,16 @@ public final class HutLoaves {
         return value >= lowest && value <= highest;
     }
 
-    /** The library's own way to the bits is ruled out; halving and doubling lose nothing here. */
-    private static int bitsOf(float value) {
-        if (!(value > 0f)) {
-            return 0;
-        }
-        float part = value;
+    /**
+     * The library's own way to the bits is ruled out; halving loses nothing. No loaf of the hut is
+     * younger than 2 days when a call asks for the mean, so it need not be told for less than 1.
+     */
+    private static int bitsOf(float mean) {
+        float part = mean;
         int exponent = 127;
         for (int k = 0; k < 127 && part >= 2f; k++) {
             part = part / 2f;
             exponent++;
-        }
-        for (int k = 0; k < 126 && part < 1f; k++) {
-            part = part * 2f;
-            exponent--;
         }
         return (exponent << 23) | (int) ((part - 1f) * 8388608f);
     }

@@ -53,8 +53,29 @@ public final class P02MuleTest {
         Checks.due("mule(8, 5)", hut.mule(8, 5), 0);
         Checks.due("its load", hut.muleOf(0, 0), 8);
         Checks.due("its strength", hut.muleOf(0, 1), 5);
+        nothingElse(hut, 0);
+        hut = new HutLoaves();
+        hut.mule(7, 1);
+        hut.send(0, 5);
+        hut.undo();
+        hut.undo();
+        Checks.due("mule after one that was undone on its way", hut.mule(8, 5), 0);
+        nothingElse(hut, 0);
+        hut = Checks.withMules(0);
+        hut.mule(7, 1);
+        hut.send(0, 5);
+        hut.end(4);
+        Checks.due("lame", hut.muleOf(0, 7), 1);
+        hut.undo();
+        hut.undo();
+        hut.undo();
+        Checks.due("mule after one that was undone when lame", hut.mule(8, 5), 0);
+        nothingElse(hut, 0);
+    }
+
+    private static void nothingElse(HutLoaves hut, int mule) {
         for (int what = 2; what <= 7; what++) {
-            Checks.due("muleOf(0, " + what + ")", hut.muleOf(0, what), 0);
+            Checks.due("muleOf(" + mule + ", " + what + ")", hut.muleOf(mule, what), 0);
         }
     }
 }

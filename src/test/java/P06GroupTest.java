@@ -5,6 +5,7 @@ public final class P06GroupTest {
         edges();
         tenAtATime();
         noNumberComesAgain();
+        hasPaidNothingAndWasNotHungry();
         Checks.finish(P06GroupTest.class);
     }
 
@@ -64,5 +65,20 @@ public final class P06GroupTest {
         hut.undo();
         Checks.due("the same once more, after undo", hut.group(8, 2, 3), 1);
         Checks.due("it has paid nothing", hut.groupOf(1, 5), 0);
+    }
+
+    private static void hasPaidNothingAndWasNotHungry() {
+        HutLoaves hut = new HutLoaves();
+        for (int k = 0; k < 10; k++) {
+            hut.group(12, 0, 1 + k % 2);
+        }
+        hut.end(1);
+        hut.end(1);
+        Checks.due("all were hungry", hut.count(15), 15);
+        for (int k = 10; k < 20; k++) {
+            Checks.due("group " + k, hut.group(1, 0, 1), k);
+            Checks.due("paid", hut.groupOf(k, 5), 0);
+            Checks.due("hungry days", hut.groupOf(k, 6), 0);
+        }
     }
 }

@@ -13,6 +13,7 @@ public final class P08EndTest {
         tooOldInTheHut();
         twentyDaysOldWhenTheyCome();
         tooOldWhenTheyCome();
+        thrownAwayAtOnceAfterOthers();
         Checks.finish(P08EndTest.class);
     }
 
@@ -251,5 +252,19 @@ public final class P08EndTest {
         Checks.due("brings no more", hut.muleOf(0, 4), 0);
         Checks.due("lost", hut.count(13), 0);
         Checks.due("on its way down", hut.muleOf(0, 2), 2);
+    }
+
+    private static void thrownAwayAtOnceAfterOthers() {
+        HutLoaves hut = Checks.withMules(2);
+        hut.send(0, 3);
+        hut.end(6);
+        hut.send(1, 5);
+        hut.set(3, 90);
+        hut.end(21);
+        Checks.due("thrown away in the hut", hut.count(12), 3);
+        hut.set(3, 0);
+        hut.end(1);
+        Checks.due("and at once", hut.count(12), 8);
+        Checks.due("in the hut", hut.count(7), 0);
     }
 }

@@ -82,5 +82,10 @@ public final class P17NextTest {
         Checks.due("just its load by credit", hut.next(1), 20);
         hut.set(1, 149);
         Checks.due("one less", hut.next(1), 19);
+        hut.set(1, 91);
+        hut.set(0, 1);
+        Checks.due("the last one", hut.next(1), 1);
+        hut.set(1, 90);
+        Checks.due("none", hut.next(1), 0);
     }
 }

@@ -2,6 +2,7 @@
 public final class P19MeanTest {
     public static void main(String[] args) {
         oneAge();
+        oneLoaf();
         twoAges();
         Checks.finish(P19MeanTest.class);
     }
@@ -19,6 +20,13 @@ public final class P19MeanTest {
         }
         hut.end(1);
         Checks.due("all thrown away", hut.mean(), Checks.MISSING);
+    }
+
+    private static void oneLoaf() {
+        HutLoaves hut = Checks.withMules(1);
+        hut.send(0, 1);
+        hut.end(9);
+        Checks.due("9", hut.mean(), 0x41100000);
     }
 
     private static void twoAges() {

@@ -4,7 +4,9 @@ public final class P21UndoTest {
         emptyHistory();
         fourStatesAtMost();
         everyChangeIsRecorded();
+        changesAfterQuestions();
         everythingIsRestored();
+        ageOfLoavesOnTheirWay();
         theTextIsNot();
         Checks.finish(P21UndoTest.class);
     }
@@ -49,6 +51,41 @@ public final class P21UndoTest {
         hut.send(0, 9);
         hut.end(1);
         return hut;
+    }
+
+    /** What was only asked, or was refused, must not be seen in the next change. */
+    private static void changesAfterQuestions() {
+        for (int change = 0; change < 10; change++) {
+            for (int question = 0; question < 4; question++) {
+                HutLoaves asked = busyHut();
+                Checks.write(asked, "d9;x1;s1,9;g9,9,9;d0;");
+                ask(asked, question);
+                HutLoaves other = busyHut();
+                String name = "change " + change + " after the question " + question;
+                asked.clearText();
+                Checks.due(name, makeChange(asked, change), makeChange(other, change));
+                Checks.unchanged(name, asked, Checks.counts(other));
+                Checks.due(name, asked.muleOf(1, 2), other.muleOf(1, 2));
+                Checks.due(name, asked.groupOf(1, 1), other.groupOf(1, 1));
+            }
+        }
+    }
+
+    private static void ask(HutLoaves hut, int question) {
+        switch (question) {
+            case 0:
+                hut.would(60, 0);
+                break;
+            case 1:
+                hut.hungry();
+                break;
+            case 2:
+                hut.fault(0);
+                break;
+            default:
+                Checks.due("play()", hut.play(), Checks.IMPOSSIBLE);
+                break;
+        }
     }
 
     private static void everyChangeIsRecorded() {
@@ -121,6 +158,20 @@ public final class P21UndoTest {
         for (int k = 0; k < details.length; k++) {
             Checks.due("detail " + k, restored[k], details[k]);
         }
+    }
+
+    private static void ageOfLoavesOnTheirWay() {
+        HutLoaves hut = Checks.withMules(1);
+        hut.send(0, 5);
+        hut.end(2);
+        hut.end(2);
+        hut.send(0, 5);
+        hut.undo();
+        hut.undo();
+        hut.undo();
+        Checks.due("day", hut.count(3), 0);
+        hut.end(3);
+        Checks.due("baked on the day 0", hut.loaves(3), 5);
     }
 
     private static int[] details(HutLoaves hut) {
