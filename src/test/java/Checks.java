@@ -19,6 +19,14 @@ final class Checks {
         }
     }
 
+    static int wrong() {
+        return wrong;
+    }
+
+    static int made() {
+        return made;
+    }
+
     static void finish(Class<?> test) {
         System.out.println(test.getName() + ": " + made + " checks, " + wrong + " wrong");
         if (wrong != 0 || made == 0) {

@@ -52,7 +52,7 @@ public final class P08EndTest {
         HutLoaves hut = new HutLoaves();
         int x = 1;
         int snow = 0;
-        for (int k = 0; k < 200; k++) {
+        for (int k = 0; k < 160; k++) {
             hut.end(1);
             x = (x * 421 + 1663) % 10000;
             snow += x % 100 < 10 ? 1 : 0;

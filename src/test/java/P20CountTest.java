@@ -73,7 +73,7 @@ public final class P20CountTest {
         hut.mule(30, 2);
         hut.mule(28, 3);
         hut.mule(26, 4);
-        for (int k = 0; k < 70; k++) {
+        for (int k = 0; k < 24; k++) {
             hut.send(hut.next(0), hut.next(1));
             hut.group(1 + k % 12, k % 5, 1 + k % 9);
             hut.end(1 + k % 3);
@@ -83,7 +83,7 @@ public final class P20CountTest {
             Checks.due("money", hut.count(5), hut.count(16) - hut.count(17));
             Checks.due("debt", hut.count(6), 2 * hut.count(10) - hut.count(17));
         }
-        Checks.due("much was eaten", hut.count(11) > 300 ? 1 : 0, 1);
-        Checks.due("much was baked", hut.count(10) > 400 ? 1 : 0, 1);
+        Checks.due("much was eaten", hut.count(11) > 80 ? 1 : 0, 1);
+        Checks.due("much was baked", hut.count(10) > 100 ? 1 : 0, 1);
     }
 }
