@@ -1,7 +1,7 @@
 /** Many runs of up to 512 calls, on the class and on the plain model of it, which must answer the same. */
 public final class RandomRunsTest {
-    private static final int RUNS = 400;
-    private static final int CALLS = 512;
+    static final int RUNS = 400;
+    static final int CALLS = 512;
     private static final int COUNTS = 24;
     private static final int LONGEST_ORDER = 12;
     private static final int[] EDGES = {Integer.MIN_VALUE, Integer.MAX_VALUE, -1, 0, 1, 4, 9, 10, 12, 13, 20, 21, 30,
