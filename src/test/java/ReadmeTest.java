@@ -5,6 +5,7 @@ import java.nio.file.Files;
 import java.nio.file.Path;
 import java.util.ArrayList;
 import java.util.List;
+import java.util.Locale;
 import java.util.TreeMap;
 import java.util.TreeSet;
 import java.util.regex.Matcher;
@@ -19,6 +20,10 @@ public final class ReadmeTest {
     private static final String[] NOT_IN_THE_COPY = {"ReadmeTest.java", "CiTest.java"};
     private static final String EXAMPLES = "src/example/java";
     private static final String RUN_ALL = "bash .ci/run";
+    /** Calls of which README.md tells what numbers mean, with the first and the last number. */
+    private static final String[][] CALLS_WITH_NUMBERS = {{"set", "0", "3"}, {"muleOf", "0", "7"},
+        {"groupOf", "0", "6"}, {"why", "1", "3"}, {"next", "0", "1"}, {"would", "0", "3"}, {"count", "0", "23"},
+        {"fault", "0", "2"}};
 
     private final Path root;
     private final Path document;
@@ -34,6 +39,7 @@ public final class ReadmeTest {
         ReadmeTest test = new ReadmeTest(Path.of(args[0]), Path.of(args[1]));
         test.examplesAreFiles();
         test.callsAreThoseOfTheClass();
+        test.numbersAreThoseOfTheDocument();
         test.errorsAreThoseOfTheClass();
         test.ordersDoWhatTheirCallsDo();
         test.testsAreNamed();
@@ -105,7 +111,50 @@ public final class ReadmeTest {
         holds("calls that README.md tells " + told + ", due are " + due, told.equals(due) && due.size() == 24);
     }
 
-    private void errorsAreThoseOfTheClass() throws IllegalAccessException {
+    /** A number that README.md tells of a call has a word or more beside it, all of which the document has there. */
+    private void numbersAreThoseOfTheDocument() throws IOException {
+        String terms = Files.readString(document).replaceAll("(?s)## Promise .*", "");
+        for (String[] call : CALLS_WITH_NUMBERS) {
+            String told = textOf(call[0]).replaceAll(" \\([^)]*\\)", "");
+            String due = call[0].equals("set") ? terms.replaceAll("(?s).*The settings are", "") : promiseOf(call[0]);
+            int number = Integer.parseInt(call[1]);
+            Matcher m = Pattern.compile("(?<=[:,] )(\\d+)(?: to (\\d+))? ([^,:]+)").matcher(told);
+            while (m.find()) {
+                Checks.due("a number of " + call[0], Integer.parseInt(m.group(1)), number);
+                holds("words of " + call[0] + " " + m.group(), hasAllWords(due, m.group(1), m.group(3)));
+                number = Integer.parseInt(m.group(2) == null ? m.group(1) : m.group(2)) + 1;
+            }
+            Checks.due("the last number of " + call[0], number - 1, Integer.parseInt(call[2]));
+        }
+    }
+
+    private String textOf(String call) {
+        Matcher m = Pattern.compile("(?m)^\\| `" + call + "\\([^`]*\\)` \\|(.*)\\|$").matcher(section("The calls"));
+        return m.find() ? ": " + m.group(1).trim() : "";
+    }
+
+    private String promiseOf(String call) throws IOException {
+        String text = Files.readString(document);
+        Matcher m = Pattern.compile("(?ms)^## Promise \\d+: " + call + "\n(.*?)(^## |\\z)").matcher(text);
+        return m.find() ? m.group(1) : "";
+    }
+
+    private static boolean hasAllWords(String document, String number, String words) {
+        Matcher m = Pattern.compile("(?<![\\d-])" + number + "(?: to \\d+)?:? ([^;,\n]+)").matcher(document);
+        while (m.find()) {
+            String found = " " + m.group(1).replaceAll("[^\\w]+", " ") + " ";
+            boolean all = true;
+            for (String word : words.trim().split(" ")) {
+                all = all && (word.length() < 4 || found.contains(" " + word + " "));
+            }
+            if (all) {
+                return true;
+            }
+        }
+        return false;
+    }
+
+    private void errorsAreThoseOfTheClass() throws IllegalAccessException, IOException {
         TreeMap<String, String> due = new TreeMap<>();
         for (Field field : HutLoaves.class.getFields()) {
             if (Modifier.isStatic(field.getModifiers())) {
@@ -113,9 +162,12 @@ public final class ReadmeTest {
             }
         }
         TreeMap<String, String> told = new TreeMap<>();
-        Matcher m = Pattern.compile("(?m)^\\| `(\\w+)` \\| (-\\d+) \\|").matcher(section("Errors"));
+        String text = Files.readString(document).toLowerCase(Locale.ROOT);
+        Matcher m = Pattern.compile("(?m)^\\| `(\\w+)` \\| (-\\d+) \\| (.*) \\|$").matcher(section("Errors"));
         while (m.find()) {
             told.put(m.group(1), m.group(2));
+            String line = "`" + m.group(1) + " = " + m.group(2) + "`: " + m.group(3) + ".";
+            holds(line + " stands in the document", text.contains(line.toLowerCase(Locale.ROOT)));
         }
         holds("errors that README.md tells " + told + ", due are " + due, told.equals(due) && due.size() == 4);
     }

@@ -1,5 +1,6 @@
 import java.io.IOException;
 import java.nio.charset.StandardCharsets;
+import java.nio.file.FileVisitOption;
 import java.nio.file.Files;
 import java.nio.file.Path;
 import java.util.Comparator;
@@ -57,8 +58,9 @@ final class Scratch {
         }
     }
 
+    /** The folder, or one in it, may be a link: ../shared may stand elsewhere. */
     static List<Path> filesUnder(Path folder) throws IOException {
-        try (Stream<Path> paths = Files.walk(folder)) {
+        try (Stream<Path> paths = Files.walk(folder, FileVisitOption.FOLLOW_LINKS)) {
             return paths.filter(Files::isRegularFile).sorted().collect(Collectors.toList());
         }
     }
