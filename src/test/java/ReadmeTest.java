@@ -286,7 +286,8 @@ public final class ReadmeTest {
                 due = dueLines(block[1]);
             } else if (block[0].equals("sh")) {
                 printed = linesOf(scratch, block[1]);
-                holds("what is printed by\n" + block[1] + printed + ", due is " + due, due == null || due.equals(printed));
+                boolean asDue = due == null || due.equals(printed);
+                holds("what is printed by\n" + block[1] + printed + ", due is " + due, asDue);
                 due = null;
             } else {
                 holds("the last lines of " + printed + " are " + block[1], endsWith(printed, block[1]));
